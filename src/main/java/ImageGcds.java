@@ -213,7 +213,7 @@ public final class ImageGcds {
     private int mirrored(int digits) {
         int answer = 0;
         for (int letter = 0; letter < letters; letter++) {
-            answer = answer << 4 | digits >> 4 * letter & HIGHEST;
+            answer = answer << 4 | (digits >> 4 * letter & HIGHEST);
         }
         return answer;
     }
@@ -534,7 +534,9 @@ public final class ImageGcds {
                 }
             }
             System.arraycopy(table, from + top, table, from, SPAN - top);
-            Arrays.fill(table, from + SPAN - top, from + SPAN, 0);
+            for (int i = SPAN - top; i < SPAN; i++) {
+                table[from + i] = 0;
+            }
         }
 
         /** Multiplies each block of a table; what would go above the exponent 15 isn't there. */

@@ -143,6 +143,9 @@ public final class PromisesTest {
         CHECKS.same("none is made", before, g.count());
         CHECKS.same("head fits, rest doesn't", -1, g.over(make(g, "x^2+1"), make(g, "x+1")));
         CHECKS.same("exponents carry", -1, g.over(make(g, "x^3*y^2"), make(g, "x*y^15*z^3+y^3")));
+        CHECKS.same("as if y^16 were x", -1, g.over(make(g, "x*y+x"), make(g, "x+y^15")));
+        CHECKS.same("as if y^16 were x", -1, g.over(make(g, "x*y+2*x+y^15"), make(g, "x+y^15")));
+        CHECKS.same("as if z^16 were y", -1, g.over(make(g, "y*z+2*y+z^15"), make(g, "y+z^15")));
         CHECKS.same("a letter too much", -1, g.over(make(g, "x^3+y"), make(g, "x+z^15")));
         CHECKS.refused("no first", NO_POLY, () -> g.over(-1, a));
         CHECKS.refused("no second", NO_POLY, () -> g.over(a, 60));
