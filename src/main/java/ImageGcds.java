@@ -963,7 +963,7 @@ public final class ImageGcds {
             int[] spare = three;
             System.arraycopy(one, 0, repeated, 0, repeated.length);
             for (int letter = 0; letter < letters; letter++) {
-                spread(a.derived(4 * letter), four);
+                spreadSlope(a, 4 * letter, four);
                 images.greatest(letters, repeated, four, spare);
                 int[] old = repeated;
                 repeated = spare;
@@ -1022,6 +1022,17 @@ public final class ImageGcds {
             for (int i = 0; i < a.size; i++) {
                 if ((a.keys[i] >> shift & HIGHEST) == exponent) {
                     table[a.keys[i] - (exponent << shift)] = a.numbers[i];
+                }
+            }
+        }
+
+        /** The slope as a table at once, since no polynomial of it is kept. */
+        private static void spreadSlope(Poly a, int shift, int[] table) {
+            Arrays.fill(table, 0);
+            for (int i = 0; i < a.size; i++) {
+                int exponent = a.keys[i] >> shift & HIGHEST;
+                if (exponent > 0) {
+                    table[a.keys[i] - (1 << shift)] = a.numbers[i] * exponent % PRIME;
                 }
             }
         }

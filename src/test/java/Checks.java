@@ -4,17 +4,23 @@ final class Checks {
     private static final int PRIME = 32003;
     private int wrong;
     private int all;
+    private String sentence = "";
 
     /** A call whose answer or exception is looked at. */
     interface Call {
         Object answer();
     }
 
+    /** The sentence of the document that the checks from here on are for. */
+    void sentence(String text) {
+        sentence = "\"" + text + "\": ";
+    }
+
     void same(String what, Object want, Object got) {
         all++;
         if (!want.equals(got)) {
             wrong++;
-            System.out.println(what + " answered " + got + ", due is " + want);
+            System.out.println(sentence + what + " answered " + got + ", due is " + want);
         }
     }
 
@@ -79,6 +85,15 @@ final class Checks {
             text.append(withNumber(Math.abs(signed), powerText(g.at(p, k, 1))));
         }
         return text.length() == 0 ? "0" : text.toString();
+    }
+
+    /** All that can be asked of an object without changing it. */
+    static String state(ImageGcds g) {
+        StringBuilder text = new StringBuilder();
+        for (int p = 0; p < g.count(); p++) {
+            text.append(p).append(": ").append(show(g, p)).append("; ");
+        }
+        return text.append(g.count()).toString();
     }
 
     private static String withNumber(int number, String power) {

@@ -11,6 +11,7 @@ public final class RoomTest {
         takesAtMost("products of many terms", BYTES_OF_ROOM / 4, RoomTest::wideRun);
         takesAtMost("sums of many terms", BYTES_OF_ROOM / 4, RoomTest::sumRun);
         takesAtMost("the dearest calls", BYTES_OF_ROOM / 10, RoomTest::dearRun);
+        takesAtMost("parts of many terms", BYTES_OF_ROOM / 10, RoomTest::partRun);
         takesAtMost("calls that make none", BYTES_OF_ROOM / 20, RoomTest::vainRun);
         CHECKS.end("RoomTest");
     }
@@ -64,6 +65,15 @@ public final class RoomTest {
             g.part(a, 15);
             g.content(a, 1);
             g.resultant(b, c, 0);
+        }
+        return g;
+    }
+
+    private static Object partRun() {
+        ImageGcds g = new ImageGcds(3);
+        int a = wide(g);
+        for (int k = 1; g.count() < 60; k = k % 45 + 1) {
+            g.part(a, k);
         }
         return g;
     }
